@@ -284,7 +284,7 @@ public final class GrantBook {
     /** The least match with which so much can be earned. */
     private long leastMatchFor(long earned) {
         int ownShare = 100 - grantShare;
-        // Rounded up: what match allows is rounded down, so that the exact quotient may be too little.
+        // Rounded up, because a cent of match less would bound the earned amount.
         return grantShare > 0 ? (earned * ownShare + grantShare - 1) / grantShare : 0;
     }
 
