@@ -1,19 +1,12 @@
-/** Promises 1 to 8: a new object and the budget. */
+/** Promises 1 to 8: a new object and the budget, with ordinary inputs; BudgetEdgesTest has the boundary cases. */
 public final class BudgetTest {
-    private static final int MIN = Integer.MIN_VALUE;
-    private static final int MAX = Integer.MAX_VALUE;
-
     public static void main(String[] args) {
         promise1NewObject();
         promise1GrantAtFirst();
         promise2SetGrant();
-        promise2SetGrantRefused();
         promise3AddLine();
-        promise3AddLineRefused();
         promise4Extend();
-        promise4ExtendRefused();
         promise5Move();
-        promise5MoveRefused();
         promise6Lines();
         promise7Room();
         promise8Left();
@@ -72,33 +65,6 @@ public final class BudgetTest {
         Check.due("the highest grant: earned", book.earned(7), 2000);
     }
 
-    private static void promise2SetGrantRefused() {
-        GrantBook book = new GrantBook();
-        book.addLine(10000, 0, 9999, true);
-        book.spend(0, 5, 1000);
-        book.match(500);
-        int[][] bad = {
-            {-1, 50, 5, 5}, {100000001, 50, 5, 5}, {MIN, 50, 5, 5}, {MAX, 50, 5, 5},
-            {5, 0, 5, 5}, {5, 101, 5, 5}, {5, MIN, 5, 5}, {5, MAX, 5, 5},
-            {5, 50, -1, 5}, {5, 50, 101, 5}, {5, 50, MIN, 5}, {5, 50, MAX, 5},
-            {5, 50, 5, -1}, {5, 50, 5, 100000001}, {5, 50, 5, MIN}, {5, 50, 5, MAX},
-        };
-        refuseGrants(book, bad);
-        book.claim(5);
-        refuseGrants(book, bad);
-        Check.throwsAndKeeps(book, "setGrant after a claim", Check.BAD_STATE, () -> book.setGrant(5, 50, 5, 5));
-        GrantBook unspent = new GrantBook();
-        Check.due("a claim of nothing", unspent.claim(0), 0);
-        Check.throwsAndKeeps(unspent, "setGrant after a claim of 0", Check.BAD_STATE, () -> unspent.setGrant(5, 50, 5, 5));
-    }
-
-    private static void refuseGrants(GrantBook book, int[][] bad) {
-        for (int[] g : bad) {
-            String what = "setGrant(" + g[0] + ", " + g[1] + ", " + g[2] + ", " + g[3] + ")";
-            Check.throwsAndKeeps(book, what, Check.BAD_ARGUMENT, () -> book.setGrant(g[0], g[1], g[2], g[3]));
-        }
-    }
-
     private static void promise3AddLine() {
         GrantBook book = new GrantBook();
         Check.due("the first line", book.addLine(0, 0, 0, true), 0);
@@ -119,28 +85,6 @@ public final class BudgetTest {
     private static int baseOf(GrantBook book) {
         book.setGrant(0, 1, 100, 100000000);
         return book.overhead(9999);
-    }
-
-    private static void promise3AddLineRefused() {
-        GrantBook book = new GrantBook();
-        for (int i = 0; i < 12; i++) {
-            refuseLines(book);
-            Check.due("addLine", book.addLine(100 + i, i, 50, i % 2 == 0), i);
-        }
-        refuseLines(book);
-        Check.throwsAndKeeps(book, "a 13th line", Check.BAD_STATE, () -> book.addLine(1, 0, 0, true));
-        Check.due("the last line", book.room(11), 111);
-    }
-
-    private static void refuseLines(GrantBook book) {
-        int[][] bad = {
-            {-1, 0, 0}, {10000001, 0, 0}, {MIN, 0, 0}, {MAX, 0, 0},
-            {0, -1, 0}, {0, 10000, 10000}, {0, 5, 4}, {0, 0, 10000}, {0, 0, -1}, {0, MIN, 0}, {0, 0, MAX}, {0, MAX, MAX},
-        };
-        for (int[] l : bad) {
-            String what = "addLine(" + l[0] + ", " + l[1] + ", " + l[2] + ")";
-            Check.throwsAndKeeps(book, what, Check.BAD_ARGUMENT, () -> book.addLine(l[0], l[1], l[2], true));
-        }
     }
 
     private static void promise4Extend() {
@@ -177,20 +121,6 @@ public final class BudgetTest {
         Check.due("which fits all the same", book.fits(1), true);
     }
 
-    private static void promise4ExtendRefused() {
-        GrantBook book = new GrantBook();
-        Check.throwsAndKeeps(book, "extend without lines", Check.NO_SUCH, () -> book.extend(0, 5));
-        book.addLine(100, 10, 20, true);
-        for (int line : new int[] {-1, 1, 11, 12, MIN, MAX}) {
-            Check.throwsAndKeeps(book, "extend(" + line + ", 30)", Check.NO_SUCH, () -> book.extend(line, 30));
-            Check.throwsAndKeeps(book, "extend(" + line + ", -1)", Check.NO_SUCH, () -> book.extend(line, -1));
-        }
-        for (int last : new int[] {19, 10, 0, -1, 10000, MIN, MAX}) {
-            Check.throwsAndKeeps(book, "extend(0, " + last + ")", Check.BAD_ARGUMENT, () -> book.extend(0, last));
-        }
-        Check.due("the last day is still 20", book.extend(0, 20), 20);
-    }
-
     private static void promise5Move() {
         GrantBook book = new GrantBook();
         book.addLine(1009, 0, 9999, true);
@@ -200,35 +130,13 @@ public final class BudgetTest {
         Check.due("move 60 of 100", book.move(0, 1, 60), 949);
         Check.due("room of the other one", book.room(1), 110);
         Check.due("move the other 40", book.move(0, 2, 40), 909);
-        Check.throwsAndKeeps(book, "one more", Check.BAD_STATE, () -> book.move(0, 1, 1));
+        Check.throwsJust(book, "one more", Check.BAD_STATE, b -> b.move(0, 1, 1));
         Check.due("move back", book.move(1, 0, 5), 105);
         Check.due("room with what came back", book.room(0), 914);
-        Check.throwsAndKeeps(book, "what came back gives no leave", Check.BAD_STATE, () -> book.move(0, 1, 1));
-        Check.throwsAndKeeps(book, "what was moved in gives no leave", Check.BAD_STATE, () -> book.move(1, 0, 1));
+        Check.throwsJust(book, "what came back gives no leave", Check.BAD_STATE, b -> b.move(0, 1, 1));
+        Check.throwsJust(book, "what was moved in gives no leave", Check.BAD_STATE, b -> b.move(1, 0, 1));
         Check.due("a tenth of the highest budget", book.move(3, 2, 1000000), 9000000);
         Check.due("room of the other one", book.room(2), 11000040);
-    }
-
-    private static void promise5MoveRefused() {
-        GrantBook book = new GrantBook();
-        Check.throwsAndKeeps(book, "move without lines", Check.NO_SUCH, () -> book.move(0, 0, 0));
-        book.addLine(1000, 0, 9999, true);
-        book.addLine(9, 0, 9999, true);
-        for (int line : new int[] {-1, 2, 11, 12, MIN, MAX}) {
-            Check.throwsAndKeeps(book, "move(" + line + ", 0, 5)", Check.NO_SUCH, () -> book.move(line, 0, 5));
-            Check.throwsAndKeeps(book, "move(0, " + line + ", 5)", Check.NO_SUCH, () -> book.move(0, line, 5));
-            Check.throwsAndKeeps(book, "move(0, " + line + ", 0)", Check.NO_SUCH, () -> book.move(0, line, 0));
-            Check.throwsAndKeeps(book, "move(" + line + ", same, 0)", Check.NO_SUCH, () -> book.move(line, line, 0));
-        }
-        for (int amount : new int[] {0, -1, 10000001, MIN, MAX}) {
-            Check.throwsAndKeeps(book, "move(0, 1, " + amount + ")", Check.BAD_ARGUMENT, () -> book.move(0, 1, amount));
-        }
-        Check.throwsAndKeeps(book, "to the same line", Check.BAD_ARGUMENT, () -> book.move(0, 0, 1));
-        Check.throwsAndKeeps(book, "too much to the same line", Check.BAD_ARGUMENT, () -> book.move(0, 0, 101));
-        Check.throwsAndKeeps(book, "more than a tenth", Check.BAD_STATE, () -> book.move(0, 1, 101));
-        Check.throwsAndKeeps(book, "the highest amount", Check.BAD_STATE, () -> book.move(0, 1, 10000000));
-        Check.throwsAndKeeps(book, "a tenth of 9 is below 1", Check.BAD_STATE, () -> book.move(1, 0, 1));
-        Check.due("the refused ones do not count", book.move(0, 1, 100), 900);
     }
 
     private static void promise6Lines() {
@@ -242,7 +150,6 @@ public final class BudgetTest {
 
     private static void promise7Room() {
         GrantBook book = new GrantBook();
-        Check.throwsAndKeeps(book, "room without lines", Check.NO_SUCH, () -> book.room(0));
         book.addLine(300, 0, 5, true);
         book.addLine(200, 0, 5, true);
         book.spend(0, 3, 50);
@@ -252,14 +159,10 @@ public final class BudgetTest {
         book.move(1, 0, 20);
         Check.due("room with both ways", book.room(0), 290);
         Check.due("room of the other", book.room(1), 210);
-        for (int line : new int[] {-1, 2, 11, 12, MIN, MAX}) {
-            Check.throwsAndKeeps(book, "room(" + line + ")", Check.NO_SUCH, () -> book.room(line));
-        }
     }
 
     private static void promise8Left() {
         GrantBook book = new GrantBook();
-        Check.throwsAndKeeps(book, "left without lines", Check.NO_SUCH, () -> book.left(0));
         book.addLine(300, 5, 10, true);
         book.addLine(200, 5, 10, true);
         Check.due("left of an unspent line", book.left(0), 300);
@@ -276,9 +179,6 @@ public final class BudgetTest {
         Check.due("the large one takes it all", book.left(0), 0);
         book.refuse(2);
         Check.due("all refused", book.left(0), 270);
-        for (int line : new int[] {-1, 2, 11, 12, MIN, MAX}) {
-            Check.throwsAndKeeps(book, "left(" + line + ")", Check.NO_SUCH, () -> book.left(line));
-        }
     }
 
     private static void promise8LeftWithLateVouchers() {

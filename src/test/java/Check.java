@@ -4,15 +4,19 @@ final class Check {
     static final Class<? extends RuntimeException> BAD_ARGUMENT = IllegalArgumentException.class;
     static final Class<? extends RuntimeException> BAD_STATE = IllegalStateException.class;
 
-    private static final int[] PROBED_DAYS = {0, 1, 5, 10, 20, 50, 100, 5000, 9998, 9999};
     private static int asked = 0;
     private static int wrong = 0;
 
     private Check() {
     }
 
+    /** A book at some point of its life, which can be made as often as it is needed. */
+    interface Story {
+        GrantBook tell();
+    }
+
     interface Call {
-        void run();
+        void on(GrantBook book);
     }
 
     static void due(String what, long got, long want) {
@@ -33,45 +37,41 @@ final class Check {
         }
     }
 
-    /** The call throws just this exception and changes nothing that the book answers. */
-    static void throwsAndKeeps(GrantBook book, String what, Class<? extends RuntimeException> want, Call call) {
+    /** The call throws just this exception, not one of its kind that the machine throws. */
+    static void throwsJust(GrantBook book, String what, Class<? extends RuntimeException> want, Call call) {
         asked++;
-        String before = allAnswers(book);
         Class<?> got = null;
         try {
-            call.run();
+            call.on(book);
         } catch (RuntimeException e) {
             got = e.getClass();
         }
         if (got != want) {
             fail(what + " threw " + (got == null ? "nothing" : got.getSimpleName()) + ", due is " + want.getSimpleName());
         }
-        String after = allAnswers(book);
-        if (!after.equals(before)) {
-            fail(what + " threw and changed the book from\n  " + before + "\nto\n  " + after);
+    }
+
+    /** The call throws just this exception and changes nothing: the book goes on as one that was not asked it. */
+    static void refused(Story story, String what, Class<? extends RuntimeException> want, Call call) {
+        for (View view : View.values()) {
+            GrantBook book = story.tell();
+            throwsJust(book, what, want, call);
+            due(view + " after the refused " + what, view.of(book), view.of(story.tell()));
         }
     }
 
-    /** Everything that can be asked without a change; an extend to the last day itself is such a question too. */
-    static String allAnswers(GrantBook book) {
-        StringBuilder text = new StringBuilder();
-        text.append("lines ").append(book.lines());
-        for (int i = 0; i < book.lines(); i++) {
-            text.append(" [room ").append(book.room(i)).append(" left ").append(book.left(i)).append(']');
+    /** The call does not throw and changes nothing. */
+    static void keeps(Story story, String what, Call call) {
+        for (View view : View.values()) {
+            GrantBook book = story.tell();
+            call.on(book);
+            due(view + " after " + what, view.of(book), view.of(story.tell()));
         }
-        text.append(" vouchers ").append(book.vouchers());
-        for (int i = 0; i < book.vouchers(); i++) {
-            text.append(" [").append(book.fits(i)).append(' ').append(book.eligible(i)).append(']');
-        }
-        for (int day : PROBED_DAYS) {
-            text.append(" day ").append(day).append(" [").append(book.costs(day)).append(' ').append(book.overhead(day));
-            text.append(' ').append(book.earned(day)).append(' ').append(book.missingMatch(day)).append(']');
-        }
-        text.append(" claims ").append(book.claims());
-        for (int i = 0; i < book.claims(); i++) {
-            text.append(" [").append(book.paid(i)).append(']');
-        }
-        return text.append(" unsettled ").append(book.unsettled()).toString();
+    }
+
+    /** The values just outside of a range, and those at the ends of all ints. */
+    static int[] outside(int least, int most) {
+        return new int[] {least - 1, most + 1, Integer.MIN_VALUE, Integer.MAX_VALUE};
     }
 
     static void fail(String message) {

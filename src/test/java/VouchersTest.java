@@ -1,25 +1,15 @@
-/** Promises 9 to 15: vouchers and match. */
+/** Promises 9 to 15: vouchers and match, with ordinary inputs; VouchersEdgesTest has the boundary cases. */
 public final class VouchersTest {
-    private static final int MIN = Integer.MIN_VALUE;
-    private static final int MAX = Integer.MAX_VALUE;
-    private static final int[] NO_VOUCHER_OF_TWO = {-1, 2, 99, 100, MIN, MAX};
-
     public static void main(String[] args) {
         promise9Spend();
-        promise9SpendRefused();
-        promise9AtMostAHundred();
         promise10Refuse();
-        promise10RefuseRefused();
         promise11Admit();
-        promise11AdmitRefused();
         promise12Match();
-        promise12MatchRefused();
         promise13Vouchers();
         promise14Fits();
         promise15EligibleByDayThenNumber();
         promise15EligibleOfEachLine();
         promise15EligibleWithMoves();
-        promise15EligibleRefused();
         Check.end("VouchersTest");
     }
 
@@ -47,36 +37,6 @@ public final class VouchersTest {
         Check.due("in all", book.costs(9999), 10000000);
     }
 
-    private static void promise9SpendRefused() {
-        GrantBook book = new GrantBook();
-        Check.throwsAndKeeps(book, "spend without lines", Check.NO_SUCH, () -> book.spend(0, -1, 0));
-        book.addLine(100, 10, 20, true);
-        for (int line : new int[] {-1, 1, 11, 12, MIN, MAX}) {
-            Check.throwsAndKeeps(book, "spend(" + line + ", 10, 5)", Check.NO_SUCH, () -> book.spend(line, 10, 5));
-            Check.throwsAndKeeps(book, "spend(" + line + ", -1, 0)", Check.NO_SUCH, () -> book.spend(line, -1, 0));
-        }
-        for (int day : new int[] {-1, 10000, MIN, MAX}) {
-            Check.throwsAndKeeps(book, "spend(0, " + day + ", 5)", Check.BAD_ARGUMENT, () -> book.spend(0, day, 5));
-        }
-        for (int amount : new int[] {0, -1, 10000001, MIN, MAX}) {
-            Check.throwsAndKeeps(book, "spend(0, 10, " + amount + ")", Check.BAD_ARGUMENT, () -> book.spend(0, 10, amount));
-        }
-    }
-
-    private static void promise9AtMostAHundred() {
-        GrantBook book = bookWithLine(1000, 10, 20);
-        for (int i = 0; i < 100; i++) {
-            Check.due("spend", book.spend(0, 20 - i % 11, 7), i);
-        }
-        Check.throwsAndKeeps(book, "a 101st voucher", Check.BAD_STATE, () -> book.spend(0, 10, 1));
-        Check.throwsAndKeeps(book, "of no line", Check.NO_SUCH, () -> book.spend(1, 10, 1));
-        Check.throwsAndKeeps(book, "of no day", Check.BAD_ARGUMENT, () -> book.spend(0, 10000, 1));
-        Check.throwsAndKeeps(book, "of no amount", Check.BAD_ARGUMENT, () -> book.spend(0, 10, 0));
-        book.refuse(0);
-        Check.throwsAndKeeps(book, "refused ones count", Check.BAD_STATE, () -> book.spend(0, 10, 1));
-        Check.due("the last one", book.eligible(99), 7);
-    }
-
     private static void promise10Refuse() {
         GrantBook book = bookWithTwoVouchers();
         book.addLine(100, 10, 20, true);
@@ -102,19 +62,6 @@ public final class VouchersTest {
         Check.due("then it is the only one", book.refuse(0), 100);
     }
 
-    private static void promise10RefuseRefused() {
-        GrantBook empty = new GrantBook();
-        Check.throwsAndKeeps(empty, "refuse without vouchers", Check.NO_SUCH, () -> empty.refuse(0));
-        GrantBook book = bookWithTwoVouchers();
-        for (int voucher : NO_VOUCHER_OF_TWO) {
-            Check.throwsAndKeeps(book, "refuse(" + voucher + ")", Check.NO_SUCH, () -> book.refuse(voucher));
-        }
-        book.refuse(0);
-        Check.throwsAndKeeps(book, "refuse again", Check.BAD_STATE, () -> book.refuse(0));
-        book.admit(0);
-        Check.due("refuse after admit", book.refuse(0), 50);
-    }
-
     private static void promise11Admit() {
         GrantBook book = bookWithTwoVouchers();
         book.refuse(0);
@@ -130,21 +77,6 @@ public final class VouchersTest {
         Check.due("by its day", book.fits(outside), false);
     }
 
-    private static void promise11AdmitRefused() {
-        GrantBook empty = new GrantBook();
-        Check.throwsAndKeeps(empty, "admit without vouchers", Check.NO_SUCH, () -> empty.admit(0));
-        GrantBook book = bookWithTwoVouchers();
-        for (int voucher : NO_VOUCHER_OF_TWO) {
-            Check.throwsAndKeeps(book, "admit(" + voucher + ")", Check.NO_SUCH, () -> book.admit(voucher));
-        }
-        Check.throwsAndKeeps(book, "admit one never refused", Check.BAD_STATE, () -> book.admit(0));
-        book.spend(0, 9, 5);
-        Check.throwsAndKeeps(book, "admit one that only does not fit", Check.BAD_STATE, () -> book.admit(2));
-        book.refuse(0);
-        book.admit(0);
-        Check.throwsAndKeeps(book, "admit again", Check.BAD_STATE, () -> book.admit(0));
-    }
-
     private static void promise12Match() {
         GrantBook book = bookWithLine(1000, 0, 9999);
         book.setGrant(1000, 50, 0, 0);
@@ -156,22 +88,6 @@ public final class VouchersTest {
         book.claim(5);
         Check.due("after a claim", book.match(100), 200);
         Check.due("it is settled by the next", book.unsettled(), 100);
-    }
-
-    private static void promise12MatchRefused() {
-        GrantBook book = new GrantBook();
-        for (int amount : new int[] {0, -1, 10000001, MIN, MAX}) {
-            Check.throwsAndKeeps(book, "match(" + amount + ")", Check.BAD_ARGUMENT, () -> book.match(amount));
-        }
-        for (int i = 1; i <= 9; i++) {
-            Check.due("the highest amount", book.match(10000000), i * 10000000);
-        }
-        book.match(9999999);
-        Check.throwsAndKeeps(book, "2 above", Check.BAD_STATE, () -> book.match(2));
-        Check.throwsAndKeeps(book, "far above", Check.BAD_STATE, () -> book.match(10000000));
-        Check.throwsAndKeeps(book, "out of range first", Check.BAD_ARGUMENT, () -> book.match(10000001));
-        Check.due("the most of all match", book.match(1), 100000000);
-        Check.throwsAndKeeps(book, "1 above", Check.BAD_STATE, () -> book.match(1));
     }
 
     private static void promise13Vouchers() {
@@ -199,11 +115,6 @@ public final class VouchersTest {
         Check.due("again if admitted", book.fits(1), true);
         book.extend(0, 21);
         Check.due("with a later last day", book.fits(5), true);
-        for (int voucher : new int[] {-1, 8, 99, 100, MIN, MAX}) {
-            Check.throwsAndKeeps(book, "fits(" + voucher + ")", Check.NO_SUCH, () -> book.fits(voucher));
-        }
-        GrantBook empty = new GrantBook();
-        Check.throwsAndKeeps(empty, "fits without vouchers", Check.NO_SUCH, () -> empty.fits(0));
     }
 
     private static void promise15EligibleByDayThenNumber() {
@@ -258,14 +169,5 @@ public final class VouchersTest {
         book.move(1, 0, 10);
         Check.due("room again", book.eligible(1), 5);
         Check.due("less room again", book.eligible(2), 100);
-    }
-
-    private static void promise15EligibleRefused() {
-        GrantBook empty = new GrantBook();
-        Check.throwsAndKeeps(empty, "eligible without vouchers", Check.NO_SUCH, () -> empty.eligible(0));
-        GrantBook book = bookWithTwoVouchers();
-        for (int voucher : NO_VOUCHER_OF_TWO) {
-            Check.throwsAndKeeps(book, "eligible(" + voucher + ")", Check.NO_SUCH, () -> book.eligible(voucher));
-        }
     }
 }
