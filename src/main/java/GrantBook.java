@@ -52,7 +52,7 @@ public final class GrantBook {
         checkDay(first);
         checkRange(last, first, LAST_DAY);
         int number = lineCount;
-        if (number >= lineRows.length) {
+        if (number < 0 || number >= lineRows.length) {
             throw new IllegalStateException("no more lines can be added");
         }
         lineRows[number] = new Line(budget, first, last, isInBase);
@@ -84,7 +84,7 @@ public final class GrantBook {
         taker.movedIn += amount;
         giver.reckon();
         taker.reckon();
-        return giver.money();
+        return giver.roomNow();
     }
 
     public int lines() {
@@ -92,12 +92,12 @@ public final class GrantBook {
     }
 
     public int room(int line) throws IndexOutOfBoundsException {
-        return findLine(line).money();
+        return findLine(line).roomNow();
     }
 
     public int left(int line) throws IndexOutOfBoundsException {
         Line asked = findLine(line);
-        return asked.money() - asked.eligibleUpTo(LAST_DAY);
+        return asked.roomNow() - asked.eligibleUpTo(LAST_DAY);
     }
 
     // ---- vouchers and match
@@ -108,7 +108,7 @@ public final class GrantBook {
         checkDay(day);
         checkRange(amount, 1, MOST_AT_ONCE);
         int number = voucherCount;
-        if (number >= voucherRows.length) {
+        if (number < 0 || number >= voucherRows.length) {
             throw new IllegalStateException("no more vouchers can be added");
         }
         Voucher added = new Voucher(spent, day, amount);
@@ -183,7 +183,7 @@ public final class GrantBook {
     public int claim(int day) throws IllegalArgumentException, IllegalStateException {
         checkRange(day, lastClaimDay, LAST_DAY);
         int number = claimCount;
-        if (number >= payments.length) {
+        if (number < 0 || number >= payments.length) {
             throw new IllegalStateException("no more claims can be made");
         }
         int payment = earnedUpTo(day) - paidInAll;
@@ -305,18 +305,16 @@ public final class GrantBook {
             this.isInBase = isInBase;
         }
 
-        /** The room of the line. */
-        int money() {
+        int roomNow() {
             return budget + movedIn - movedAway;
         }
 
-        /** Tells whether a voucher of the line fits. */
         boolean accepts(Voucher voucher) {
             return !voucher.isRefused && voucher.day >= first && voucher.day <= last;
         }
 
-        /** Puts a new voucher, which has the highest number, behind all those of its day and earlier ones. */
         void putInOrder(Voucher added) {
+            // Behind all those of its day too: a new voucher has the highest number.
             Voucher ahead = null;
             for (Voucher v = earliest; v != null && v.day <= added.day; v = v.next) {
                 ahead = v;
@@ -333,14 +331,13 @@ public final class GrantBook {
         /** Finds anew what is eligible of each voucher; due after every change of the line. */
         void reckon() {
             // Never below 0: nine tenths of the budget stay, and no voucher takes more than the rest.
-            int rest = money();
+            int rest = roomNow();
             for (Voucher v = earliest; v != null; v = v.next) {
                 v.eligible = accepts(v) ? Math.min(v.amount, rest) : 0;
                 rest -= v.eligible;
             }
         }
 
-        /** What is eligible of the vouchers of a day and earlier ones, together. */
         int eligibleUpTo(int day) {
             int sum = 0;
             for (Voucher v = earliest; v != null && v.day <= day; v = v.next) {
